@@ -87,6 +87,7 @@ public final class SubtreesTest {
         }
         Expect.due("addInSubtree(0, 1)", x.addInSubtree(0, 1), 7);
         Expect.due("value(6)", x.value(6), 5);
+        Expect.due("value(0)", x.value(0), 6);
         Expect.due("value(7), another tree", x.value(7), 0);
         Expect.due("addInSubtree(8, 1000000)", x.addInSubtree(8, LIMIT), 1);
         Expect.due("addInSubtree(9, -1000000)", x.addInSubtree(9, -LIMIT), 1);
@@ -107,6 +108,10 @@ public final class SubtreesTest {
         Expect.same("after failing calls", Dump.of(x), before);
         Expect.due("addInSubtree(2, 1), the full one is outside", x.addInSubtree(2, 1), 3);
         Expect.due("addInSubtree(8, 0), full", x.addInSubtree(8, 0), 1);
+        DynamicForest y = chain();
+        y.setValue(0, LIMIT);
+        Expect.due("addInSubtree(0, 1), the root alone is full", y.addInSubtree(0, 1), VALUE_OVERFLOW);
+        Expect.due("addInSubtree(1, 1), below it", y.addInSubtree(1, 1), 63);
     }
 
     private static void diameter() {
@@ -207,6 +212,8 @@ public final class SubtreesTest {
         Expect.due("nearestMarked(2), the nearer with a greater number", x.nearestMarked(2), 6);
         x.cut(6);
         Expect.due("nearestMarked(2) after the cut", x.nearestMarked(2), 3);
+        x.setMark(0, true);
+        Expect.due("nearestMarked(2), the smallest of all numbers", x.nearestMarked(2), 0);
         DynamicForest y = chain();
         y.setMark(63, true);
         Expect.due("nearestMarked(0) of a chain", y.nearestMarked(0), 63);
