@@ -13,6 +13,16 @@ final class Dump {
         return text.toString();
     }
 
+    /** The slots as well; the object is of no use afterwards, because a slot shows itself only when it is restored. */
+    static String withSlots(DynamicForest x) {
+        StringBuilder text = new StringBuilder(of(x));
+        for (int slot = 0; slot < 2; slot++) {
+            int answer = x.restore(slot);
+            text.append("\n  slot ").append(slot).append(": ").append(answer < 0 ? "" + answer : of(x));
+        }
+        return text.toString();
+    }
+
     /** The face has no call that only reads a mark, so it is set and put back. */
     static boolean mark(DynamicForest x, int vertex) {
         boolean on = x.setMark(vertex, true) == 1;

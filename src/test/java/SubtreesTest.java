@@ -19,29 +19,12 @@ public final class SubtreesTest {
         Expect.finish();
     }
 
-    /** 0 with children 1 and 2, 3 and 4 below 1, 5 below 2, 6 below 5; values 5 -2 7 1 5 -2 7. */
     private static DynamicForest tree() {
-        DynamicForest x = new DynamicForest();
-        x.link(1, 0);
-        x.link(2, 0);
-        x.link(3, 1);
-        x.link(4, 1);
-        x.link(5, 2);
-        x.link(6, 5);
-        int[] values = {5, -2, 7, 1, 5, -2, 7};
-        for (int v = 0; v < values.length; v++) {
-            x.setValue(v, values[v]);
-        }
-        return x;
+        return Trees.seven(5, -2, 7, 1, 5, -2, 7);
     }
 
     private static DynamicForest chain() {
-        DynamicForest x = new DynamicForest();
-        x.reset(64);
-        for (int v = 1; v < 64; v++) {
-            x.link(v, v - 1);
-        }
-        return x;
+        return Trees.chain(64);
     }
 
     private static void subtreeSize() {
